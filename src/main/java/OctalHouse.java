@@ -207,7 +207,7 @@ public final class OctalHouse {
         private boolean halted;
         private int haltCode = NONE;
 
-        void skip() {
+        void stepOn() {
             p = (p + 1) & ADDRESS_BITS;
         }
 
@@ -535,13 +535,33 @@ public final class OctalHouse {
 
         private void resetAllControls() {
             for (int sc = SC_FIRST_CHANNEL; sc <= SC_LAST_LINE; sc++) {
-                putLineControl(sc, false);
+                Line line = lineOf(sc);
+                if (line != null) {
+                    line.control = false;
+                }
+            }
+            for (int i = 0; i < CHANNELS; i++) {
+                Channel channel = channelAt(i);
+                if (channel != null) {
+                    channel.active = false;
+                }
             }
         }
     }
 
     /** Does one instruction at a time. */
     private static final class Processor {
+        private static final int MPY = 0100200;
+        private static final int DIV = 0100400;
+        private static final int DLD = 0104200;
+        private static final int DST = 0104400;
+        private static final int ASL = 0100020;
+        private static final int ASR = 0101020;
+        private static final int LSL = 0100040;
+        private static final int LSR = 0101040;
+        private static final int RRL = 0100100;
+        private static final int RRR = 0101100;
+
         private final Memory memory;
         private final Registers registers;
         private final Bus bus;
@@ -554,7 +574,7 @@ public final class OctalHouse {
 
         int nextWord() {
             int v = memory.read(registers.p);
-            registers.p = (registers.p + 1) & ADDRESS_BITS;
+            registers.stepOn();
             return v;
         }
 
@@ -571,8 +591,10 @@ public final class OctalHouse {
                 }
             } else if (bit10) {
                 inputOrOutput(word);
+            } else if (hasAddressBehind(word)) {
+                doubleWord(word, resolve(nextWord()));
             } else {
-                extended(word);
+                longShift(word);
             }
         }
 
@@ -624,7 +646,7 @@ public final class OctalHouse {
 
         private void skipIf(boolean so) {
             if (so) {
-                registers.skip();
+                registers.stepOn();
             }
         }
 
@@ -762,18 +784,8 @@ public final class OctalHouse {
             }
         }
 
-        private void extended(int word) {
-            switch (word) {
-                case 0100200:
-                case 0100400:
-                case 0104200:
-                case 0104400:
-                    doubleWord(word, resolve(nextWord()));
-                    break;
-                default:
-                    longShift(word & 0177760, word & 15);
-                    break;
-            }
+        private static boolean hasAddressBehind(int word) {
+            return word == MPY || word == DIV || word == DLD || word == DST;
         }
 
         private void doubleWord(int word, int m) {
@@ -782,9 +794,9 @@ public final class OctalHouse {
             }
             int second = (m + 1) & ADDRESS_BITS;
             switch (word) {
-                case 0100200: multiply(memory.read(m)); break;
-                case 0100400: divide(memory.read(m)); break;
-                case 0104200: writeTwo(A, memory.read(m), B, memory.read(second)); break;
+                case MPY: multiply(memory.read(m)); break;
+                case DIV: divide(memory.read(m)); break;
+                case DLD: writeTwo(A, memory.read(m), B, memory.read(second)); break;
                 default: writeTwo(m, memory.read(A), second, memory.read(B)); break;
             }
         }
@@ -825,29 +837,30 @@ public final class OctalHouse {
             registers.o = 0;
         }
 
-        private void longShift(int kind, int lowBits) {
-            int n = lowBits == 0 ? 16 : lowBits;
+        private void longShift(int word) {
+            int n = (word & 15) == 0 ? 16 : word & 15;
             int v = readPair();
-            switch (kind) {
-                case 0100020: shiftWithSign(v, n); break;
-                case 0101020:
+            switch (word & 0177760) {
+                case ASL:
+                    writePair((v & LONG_SIGN) | ((v << n) & LONG_REST));
+                    registers.o = bit(losesUnlikeSign(v, n));
+                    break;
+                case ASR:
                     writePair(v >> n);
                     registers.o = 0;
                     break;
-                case 0100040: writePair(v << n); break;
-                case 0101040: writePair(v >>> n); break;
-                case 0100100: writePair((v << n) | (v >>> (32 - n))); break;
-                case 0101100: writePair((v >>> n) | (v << (32 - n))); break;
+                case LSL: writePair(v << n); break;
+                case LSR: writePair(v >>> n); break;
+                case RRL: writePair((v << n) | (v >>> (32 - n))); break;
+                case RRR: writePair((v >>> n) | (v << (32 - n))); break;
                 default: break;
             }
         }
 
-        private void shiftWithSign(int v, int n) {
-            int result = (v & LONG_SIGN) | ((v << n) & LONG_REST);
+        private static boolean losesUnlikeSign(int v, int n) {
             int lost = (v & LONG_REST) >>> (31 - n);
             int allLikeSign = v < 0 ? (1 << n) - 1 : 0;
-            writePair(result);
-            registers.o = bit(lost != allLikeSign);
+            return lost != allLikeSign;
         }
     }
 }

@@ -229,9 +229,9 @@ public final class PortsTest {
         x.set(1024 + 64, Asm.stc(11));
         x.set(1024 + 65, Asm.stf(0));
         x.set(1024 + 66, 0);
-        x.set(11, Asm.mem(Asm.LDA, 5) | Asm.HERE);
-        x.set(5, 55);
-        x.set(1024 + 5, 66);
+        x.set(11, Asm.mem(Asm.LDA, 4) | Asm.HERE);
+        x.set(4, 55);
+        x.set(1024 + 4, 66);
         x.go(1024 + 64);
         x.run(4);
         Check.due("its PAGE is 0", x.state(0), 55);
