@@ -190,7 +190,7 @@ public final class EdgesOfCodesTest {
         }
     }
 
-    // "To others nothing happens", and nothing is said of 0.
+    // "To others (4, 5, 12 ..) nothing happens"; "What goes to SC" says nothing of 0.
     private static void codesThatTakeNothing() {
         for (int sc : new int[] {0, 4, 5, 12, 13, 63}) {
             Edge.step("OTA " + sc, with(65535, 6, Asm.io(Asm.OT, sc)), "P=65");

@@ -391,16 +391,18 @@ public final class EdgesOfTurnsTest {
 
     // "bit 13 of its first word: the DEVICE's CONTROL is reset" (only as COUNT is 0 then)
     private static void channelResetsControl() {
-        for (int bit : new int[] {12, 13, 14}) {
-            for (int count : new int[] {65534, 65535, 0}) {
-                OctalHouse x = channel(0, 1 << bit | 8, 0x8000 | 500, count, 4, 0);
-                x.give(0, 5);
-                x.set(75, Asm.stc(8));
-                x.run(1);
-                boolean ends = count == 65535;
-                String reset = ends && bit == 13 ? " 8.control=0" : "";
-                Edge.step("bit " + bit + ", COUNT " + count, x, gone(8) + " P=77 8.busy=0 8.tape=0 8.buffer=5 [500]=5" + moved(0, 501, count + 1 & 65535)
-                    + (ends ? ended(0) : "") + reset);
+        for (int sc = 8; sc <= 11; sc++) {
+            for (int bit : new int[] {12, 13, 14}) {
+                for (int count : new int[] {65534, 65535, 0}) {
+                    OctalHouse x = channel(0, 1 << bit | sc, 0x8000 | 500, count, 4, 0);
+                    x.give(sc - 8, 5);
+                    x.set(75, Asm.stc(sc));
+                    x.run(1);
+                    boolean ends = count == 65535;
+                    String came = " P=77 [500]=5 " + sc + ".busy=0 " + sc + ".tape=0 " + sc + ".buffer=5";
+                    String reset = ends && bit == 13 ? " " + sc + ".control=0" : "";
+                    Edge.step("bit " + bit + ", COUNT " + count, x, gone(sc) + came + moved(0, 501, count + 1 & 65535) + (ends ? ended(0) : "") + reset);
+                }
             }
         }
     }
